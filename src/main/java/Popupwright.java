@@ -387,6 +387,7 @@ public final class Popupwright {
 
     public int restore(int crease, int both, int mark, boolean isLeft, int low, int high)
             throws IndexOutOfBoundsException, IllegalArgumentException, IllegalStateException {
+        // If this wraps around, the mark or the rest is longer than any room, and is refused.
         int rest = both - mark;
         return isLeft ? addFold(crease, mark, rest, low, high) : addFold(crease, rest, mark, low, high);
     }
@@ -1413,7 +1414,7 @@ public final class Popupwright {
         }
     }
 
-    /** The order in which hands glue the folds; sets of folds are the bits of a number. */
+    /** The order in which hands glue the folds; a set of folds is told by the bits of a number. */
     static final class Hands {
         final Book book;
         final int[] waitsFor = new int[MOST_FOLDS];
@@ -1536,20 +1537,17 @@ public final class Popupwright {
         }
 
         int leastGreatest(int stations) {
-            int least = 0;
+            int longest = 0;
             for (int n = 0; n < book.count; n++) {
-                least = Math.max(least, book.folds[n].glueMinutes());
+                longest = Math.max(longest, book.folds[n].glueMinutes());
             }
-            int most = allMinutes();
-            while (least < most) {
-                int middle = (least + most) / 2;
-                if (stationsWithin(middle) <= stations) {
-                    most = middle;
-                } else {
-                    least = middle + 1;
+            int all = allMinutes();
+            for (int time = longest; time < all; time++) {
+                if (stationsWithin(time) <= stations) {
+                    return time;
                 }
             }
-            return least;
+            return all;
         }
 
         private int stationsWithin(int time) {

@@ -3,15 +3,17 @@ import java.util.function.DoubleSupplier;
 /** Long runs of drawn calls: the program answers each as the slow one does. */
 public final class SlowTest {
     private static final Check CHECK = new Check("SlowTest");
+    private static final int PROMISED_CALLS = 512;
     private static long seed;
 
     private Popupwright fast;
     private Slow slow;
     private int run;
     private int size;
+    private int calls;
 
     public static void main(String[] args) {
-        for (int run = 1; run <= 400; run++) {
+        for (int run = 1; run <= 900; run++) {
             SlowTest test = new SlowTest();
             test.run = run;
             seed = 7919L * run + 13;
@@ -41,7 +43,7 @@ public final class SlowTest {
         if (run % 7 > 0) {
             begin();
         }
-        for (int n = 0; n < 250; n++) {
+        for (int n = 0; calls < PROMISED_CALLS && n < 250; n++) {
             if (run % 3 == 0 && n < 40) {
                 build();
             } else {
@@ -51,6 +53,10 @@ public final class SlowTest {
     }
 
     private void hold(String call, DoubleSupplier one, DoubleSupplier other) {
+        calls++;
+        if (calls > PROMISED_CALLS) {
+            return;
+        }
         String got = answer(one);
         String due = answer(other);
         CHECK.yes("run " + run + ": " + call + " answered " + got + ", the slow one " + due + ":", got.equals(due));
