@@ -1627,20 +1627,14 @@ public final class Popupwright {
         boolean isMadeByTwo() {
             int creases = isHopeless || book.count + 2 > MOST_FOLDS ? 0 : 2 * book.count + 1;
             for (int crease = 0; crease < creases; crease++) {
+                Crease into = book.creases[crease];
                 // The second one lies in the rooms of the first one's crease, so these hold it, too.
-                if (isHeld(book.creases[crease]) && isMadeFrom(crease)) {
-                    return true;
-                }
-            }
-            return false;
-        }
-
-        private boolean isMadeFrom(int crease) {
-            Crease into = book.creases[crease];
-            for (int a = GRID; a <= into.leftRoom; a += GRID) {
-                for (int b = GRID; b <= into.rightRoom; b += GRID) {
-                    if (isMadeOver(crease, a, b)) {
-                        return true;
+                int longest = isHeld(into) ? into.leftRoom : 0;
+                for (int a = GRID; a <= longest; a += GRID) {
+                    for (int b = GRID; b <= into.rightRoom; b += GRID) {
+                        if (isMadeOver(crease, a, b)) {
+                            return true;
+                        }
                     }
                 }
             }

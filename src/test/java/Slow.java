@@ -175,6 +175,17 @@ final class Slow {
         return bar;
     }
 
+    /** For those who draw calls: length, low and high of a strip; something else if there is none. */
+    int[] extent(int strip) {
+        Bar bar = bar(strip);
+        return bar == null ? new int[] {20, 0, 20} : new int[] {bar.length, bar.low, bar.high};
+    }
+
+    /** For those who draw calls: low and high of a crease. */
+    int[] heights(int crease) {
+        return noCrease(crease) ? new int[] {0, 20} : new int[] {crease(crease)[4], crease(crease)[5]};
+    }
+
     private List<Bar> bars() {
         List<Bar> all = new ArrayList<>();
         for (int n = 0; n < 4 * pieces.size(); n++) {

@@ -102,13 +102,21 @@ public final class SlowTest {
         return draw(1, Math.max(1, draw(3) == 0 ? room : room / 2));
     }
 
-    private int[] part(int most) {
-        int one = draw(0, most);
-        int two = draw(0, most);
+    private int[] part(int least, int most) {
+        int beyond = draw(25) == 0 ? 1 : 0;
+        int one = draw(least - beyond, most);
+        int two = draw(least, most + beyond);
         if (draw(30) == 0) {
             return new int[] {one, two};
         }
+        if (draw(5) == 0) {
+            return new int[] {least, most};
+        }
         return new int[] {Math.min(one, two), Math.max(one, two) + (one == two ? 1 : 0)};
+    }
+
+    private int[] part(int[] within) {
+        return part(within[within.length - 2], within[within.length - 1]);
     }
 
     private void build() {
@@ -124,10 +132,7 @@ public final class SlowTest {
         int c = crease();
         int a = length(c, true);
         int b = length(c, false);
-        int[] y = part(size);
-        if (coin()) {
-            y[0] = y[0] / 4;
-        }
+        int[] y = part(slow.heights(c));
         hold("fold " + c + " " + a + " " + b + " " + y[0] + " " + y[1],
                 () -> fast.fold(c, a, b, y[0], y[1]), () -> slow.fold(c, a, b, y[0], y[1]));
     }
@@ -137,7 +142,7 @@ public final class SlowTest {
         int a = length(c, true);
         int both = a + length(c, false);
         boolean left = coin();
-        int[] y = part(size);
+        int[] y = part(slow.heights(c));
         hold("restore " + c + " " + both + " " + a + " " + left, () -> fast.restore(c, both, a, left, y[0], y[1]),
                 () -> slow.restore(c, both, a, left, y[0], y[1]));
     }
@@ -145,7 +150,7 @@ public final class SlowTest {
     private void wish() {
         int i = draw(0, size / 2 + 1);
         int j = draw(0, size / 2 + 1);
-        int[] y = part(size);
+        int[] y = part(slow.heights(0));
         if (size == 400 && draw(6) > 0) {
             return;
         }
@@ -157,7 +162,7 @@ public final class SlowTest {
         int f = someFold();
         boolean first = coin();
         int length = draw(12) == 0 ? draw(-1, 402) : draw(1, Math.max(1, size / 4));
-        int[] y = part(size);
+        int[] y = part(slow.extent(4 * f));
         hold("arm " + f + " " + first + " " + length, () -> fast.arm(f, first, length, y[0], y[1]),
                 () -> slow.arm(f, first, length, y[0], y[1]));
     }
@@ -189,7 +194,7 @@ public final class SlowTest {
     private void stand() {
         int s = strip();
         int t = strip();
-        int place = draw(-1, size / 3);
+        int place = draw(draw(9) == 0 ? -1 : 0, slow.extent(s)[0] + (draw(9) == 0 ? 1 : 0));
         int step = draw(15) == 0 ? draw(-2, 20) : draw(19);
         hold("across", () -> fast.across(s, place, step), () -> slow.across(s, place, step));
         hold("above", () -> fast.above(s, place, step), () -> slow.above(s, place, step));
@@ -214,7 +219,7 @@ public final class SlowTest {
         int x = draw(-65 * size, 65 * size * 2);
         int y = draw(-1, size);
         int s = strip();
-        int place = draw(0, size / 4);
+        int place = draw(0, slow.extent(s)[0]);
         try {
             if (coin()) {
                 x = slow.across(s, place, step);
@@ -228,19 +233,20 @@ public final class SlowTest {
 
     private void layer() {
         int s = strip();
-        int[] along = part(size / 3);
-        int[] y = part(size);
+        int[] extent = slow.extent(s);
+        int[] along = part(0, extent[0]);
+        int[] y = part(extent);
         int colour = draw(20) == 0 ? draw(-1, 101) : draw(1, 9);
         hold("picture " + s, () -> fast.picture(s, along[0], along[1], y[0], y[1], colour),
                 () -> slow.picture(s, along[0], along[1], y[0], y[1], colour));
-        int place = draw(-1, size / 3);
-        int at = draw(-1, size);
+        int place = draw(draw(9) == 0 ? -1 : 0, extent[0] + (draw(9) == 0 ? 1 : 0));
+        int at = draw(extent[1] - (draw(9) == 0 ? 1 : 0), extent[2] + (draw(9) == 0 ? 1 : 0));
         hold("colourAt", () -> fast.colourAt(s, place, at), () -> slow.colourAt(s, place, at));
         hold("colourAt", () -> fast.colourAt(s, along[0], y[1]), () -> slow.colourAt(s, along[0], y[1]));
     }
 
     private void flaps() {
-        int p = draw(-1, 8);
+        int p = draw(draw(9) == 0 ? -1 : 0, draw(0, 8));
         int step = draw(-1, 19);
         hold("isWhole " + p + " " + step, () -> fast.isWhole(p, step) ? 1 : 0, () -> slow.isWhole(p, step) ? 1 : 0);
         hold("showStep", fast::showStep, slow::showStep);
@@ -253,14 +259,15 @@ public final class SlowTest {
 
     private void pulls() {
         int s = strip();
-        int[] along = part(size / 3);
+        int[] along = part(0, slow.extent(s)[0]);
         int friction = draw(20) == 0 ? draw(-1, 101) : draw(0, 20);
-        int p = draw(-1, 6);
-        int q = draw(-1, 6);
+        int p = draw(draw(9) == 0 ? -1 : 0, draw(0, 6));
+        int q = draw(draw(9) == 0 ? -1 : 0, draw(0, 6));
         int by = draw(12) == 0 ? draw(-410, 410) : draw(-12, 12);
         int force = draw(20) == 0 ? draw(-5, 1005) : draw(0, 90);
         if (coin()) {
-            hold("pull", () -> fast.pull(s, along[0], along[1], friction), () -> slow.pull(s, along[0], along[1], friction));
+            hold("pull", () -> fast.pull(s, along[0], along[1], friction),
+                    () -> slow.pull(s, along[0], along[1], friction));
         } else {
             hold("join " + p + " " + q, () -> fast.join(p, q), () -> slow.join(p, q));
         }
