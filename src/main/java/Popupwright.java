@@ -111,8 +111,7 @@ public final class Popupwright {
     }
 
     public int sticksOut(int fold) throws IndexOutOfBoundsException {
-        needFold(fold);
-        return book.reachBeyond(fold);
+        return Math.max(0, needFold(fold).reach() - book.width);
     }
 
     public int clashes() {
@@ -725,8 +724,17 @@ public final class Popupwright {
             return (firstArm.isMade ? 1 : 0) + (secondArm.isMade ? 1 : 0);
         }
 
-        int armLength(Strip arm) {
+        private int armLength(Strip arm) {
             return arm.isMade ? arm.length : 0;
+        }
+
+        private int longerArm() {
+            return Math.max(armLength(firstArm), armLength(secondArm));
+        }
+
+        // Torn or not: then its strips are none, but the fold and its arms are still there.
+        int reach() {
+            return firstPanel.reach() + longerArm();
         }
 
         boolean isLong(Strip arm) {
@@ -738,7 +746,7 @@ public final class Popupwright {
         }
 
         int netLength() {
-            return a + b + 2 * TAB + Math.max(armLength(firstArm), armLength(secondArm));
+            return a + b + 2 * TAB + longerArm();
         }
 
         int glueMinutes() {
@@ -858,17 +866,6 @@ public final class Popupwright {
                 }
             }
             return true;
-        }
-
-        int reachBeyond(int fold) {
-            int most = 0;
-            for (int which = 0; which < STRIPS_OF_FOLD; which++) {
-                Strip strip = stripOf(STRIPS_OF_FOLD * fold + which);
-                if (strip != null) {
-                    most = Math.max(most, strip.reach() - width);
-                }
-            }
-            return most;
         }
 
         int lowestClash(Strip strip) {

@@ -12,6 +12,7 @@ public final class ShutTest {
         lowestClash();
         isGood();
         tornStripsAreNone();
+        tornFoldsStickOut();
         refused();
         CHECK.end();
     }
@@ -123,14 +124,29 @@ public final class ShutTest {
         w.arm(0, true, 60, 10, 70);
         w.open(18, 400);
         w.fold(0, 60, 10, 10, 70);
-        CHECK.yes("a torn fold sticks out nowhere", w.doesShut());
-        CHECK.same("by how much", w.sticksOut(0), 0);
+        CHECK.yes("the ends of its strips are none", w.doesShut());
         CHECK.same("it clashes with none", w.clashes(), 0);
         CHECK.fails("nor with that", java.util.NoSuchElementException.class, () -> w.clashOf(5));
         CHECK.fails("it has no strip", IndexOutOfBoundsException.class, () -> w.clashOf(0));
         w.mend(0);
         CHECK.same("mended, it clashes", w.clashes(), 1);
-        CHECK.same("and sticks out", w.sticksOut(0), 30);
+        CHECK.no("and does not shut", w.doesShut());
+    }
+
+    private static void tornFoldsStickOut() {
+        Popupwright w = SpreadTest.one();
+        w.fold(0, 90, 95, 0, 80);
+        w.arm(0, true, 60, 10, 70);
+        CHECK.same("torn", w.open(18, 9999), 2);
+        CHECK.same("its arm", w.sticksOut(0), 30);
+        CHECK.same("its ridge", w.sticksOut(1), 85);
+        w.arm(0, false, 75, 10, 70);
+        CHECK.same("an arm made then", w.sticksOut(0), 45);
+        w.mend(0);
+        CHECK.same("mended, as before", w.sticksOut(0), 45);
+        Popupwright in = SpreadTest.one();
+        in.arm(0, true, 30, 10, 70);
+        CHECK.same("torn inside", in.open(18, 9999) + in.sticksOut(0), 1);
     }
 
     private static void refused() {

@@ -242,12 +242,16 @@ final class Slow {
 
     int sticksOut(int fold) {
         index(noFold(fold));
+        Piece p = pieces.get(fold);
+        int before = p.tired;
+        p.tired = 0;
         int most = 0;
         for (Bar bar : bars()) {
             if (bar.number / 4 == fold) {
                 most = Math.max(most, bar.endI() + bar.endJ() - width);
             }
         }
+        p.tired = before;
         return most;
     }
 
