@@ -1,3 +1,6 @@
+import java.util.function.Consumer;
+import java.util.function.Supplier;
+
 /** Counts what is not as it is due, and ends a test. */
 final class Check {
     interface Call {
@@ -5,11 +8,17 @@ final class Check {
     }
 
     private final String test;
+    private String sentence = "";
     private int checks = 0;
     private int wrong = 0;
 
     Check(String itsTest) {
         test = itsTest;
+    }
+
+    /** The sentence of the document that the next checks are for: it is told with what is wrong. */
+    void says(String itsSentence) {
+        sentence = " \"" + itsSentence + "\"";
     }
 
     void same(String what, long got, long due) {
@@ -39,11 +48,19 @@ final class Check {
         note(got == due, what + " threw " + got + ", due is " + due);
     }
 
+    /** A call that is refused: it throws what is due, and the object answers then as one that was never asked. */
+    void refused(String what, Class<? extends RuntimeException> due, Supplier<Popupwright> maker,
+            Consumer<Popupwright> call) {
+        Popupwright asked = maker.get();
+        fails(what, due, () -> call.accept(asked));
+        note(Probe.of(asked).equals(Probe.of(maker.get())), what + " was refused, but something has changed");
+    }
+
     private void note(boolean isRight, String text) {
         checks++;
         if (!isRight) {
             wrong++;
-            System.out.println(test + ": " + text);
+            System.out.println(test + sentence + ": " + text);
         }
     }
 
