@@ -99,6 +99,12 @@ public final class EdgeHandsTest {
             over.setGlue(glue);
             CHECK.same("over it, as soon as it is dry", over.begunAt(1), 7 + glue);
         }
+        Popupwright again = Books.one();
+        again.fold(2, 1, 1, 10, 11);
+        again.setGlue(99);
+        CHECK.same("slow glue", again.begunAt(1), 106);
+        again.setGlue(0);
+        CHECK.same("then glue that dries at once", again.begunAt(1), 7);
     }
 
     /** The fold 1 waits for the fold 0; the fold 2, as many minutes long as told, waits for none. */
@@ -120,6 +126,11 @@ public final class EdgeHandsTest {
         CHECK.same("the other one is begun at once", three(7, 6).begunAt(2), 1);
         CHECK.same("dry at once: by its number", three(7, 0).begunAt(1), 1);
         CHECK.same("then the other one", three(7, 0).begunAt(2), 2);
+        Popupwright both = times(1, 2);
+        both.fold(1, 5, 5, 0, 1);
+        both.fold(3, 5, 5, 1, 2);
+        CHECK.same("what is dry first", both.begunAt(2), 11);
+        CHECK.same("what is dry then", both.begunAt(3), 13);
     }
 
     private static void parents() {
@@ -209,6 +220,15 @@ public final class EdgeHandsTest {
         for (int n = 0; n < due.length; n++) {
             CHECK.same("order at " + n, w.orderAt(n), due[n]);
         }
+        Popupwright byFirst = Books.one();
+        byFirst.fold(0, 10, 10, 10, 70);
+        byFirst.fold(1, 5, 5, 10, 20);
+        CHECK.same("by the fold 0", byFirst.waiting(1), 2);
+        Popupwright first = Books.empty();
+        first.fold(0, 30, 30, 0, 10);
+        first.fold(0, 20, 20, 5, 20);
+        first.fold(0, 10, 10, 15, 30);
+        CHECK.same("the fold 0 by another one, though it has no y in common", first.waiting(2), 2);
     }
 
     private static void lowestNumber() {
@@ -353,6 +373,8 @@ public final class EdgeHandsTest {
         CHECK.same("its drying does not count", dry.copies(1, 11), 1);
         CHECK.same("1 minute less", dry.copies(1, 10), 0);
         CHECK.same("a full book", Books.full().copies(9, 9999), 1 + (9999 - 48) / 6);
+        CHECK.same("asked first: 1 minute too short for two", times(3, 5, 2, 7, 1).copies(2, 27), 1);
+        CHECK.same("asked first: two", times(3, 5, 2, 7, 1).copies(2, 28), 2);
     }
 
     private static void tornFoldsAreGlued() {

@@ -256,16 +256,18 @@ public final class EdgeMakingTest {
     private static void lastCreaseByTwo() {
         CHECK.says("the first one in the lowest crease that goes: the last one");
         Popupwright w = Books.empty();
-        w.fold(0, 4, 10, 0, 80);
-        w.arm(0, false, 6, 0, 80);
-        w.fold(0, 12, 5, 0, 80);
+        w.fold(0, 1, 1, 40, 80);
+        w.fold(0, 2, 2, 40, 80);
+        w.fold(0, 4, 10, 0, 40);
+        w.arm(2, false, 6, 0, 40);
+        w.fold(0, 12, 5, 0, 40);
         w.open(18, 9999);
-        w.mend(0);
-        CHECK.same("two, in the second crease of a torn fold", w.wish(7, 20, 0, 80), 2);
-        rooms(w, 5, 2, 10);
-        rooms(w, 6, 10, 85);
-        rooms(w, 7, 3, 5);
-        rooms(w, 8, 7, 80);
+        w.mend(2);
+        CHECK.same("two, in the second crease of a torn fold", w.wish(7, 20, 0, 40), 2);
+        rooms(w, 9, 2, 10);
+        rooms(w, 10, 10, 85);
+        rooms(w, 11, 3, 5);
+        rooms(w, 12, 7, 80);
     }
 
     private static void noSuchFolds() {
@@ -300,6 +302,7 @@ public final class EdgeMakingTest {
         Popupwright w = many(22);
         CHECK.same("the last two", w.wish(60, 40, 72, 80), 2);
         CHECK.same("folds", w.folds(), 24);
+        CHECK.refused("two that are not good", MISSING, () -> many(22), b -> b.wish(30, 40, 72, 80));
         CHECK.refused("two where one has room", MISSING, () -> many(23), b -> b.wish(60, 40, 72, 80));
         CHECK.refused("two where none has room", MISSING, () -> many(24), b -> b.wish(60, 40, 72, 80));
     }
@@ -534,6 +537,11 @@ public final class EdgeMakingTest {
         CHECK.yes("full", Books.full().isSound());
         CHECK.yes("clashing", clashing().isSound());
         CHECK.yes("strips of 60 and 61", sixty().isSound());
+        Popupwright touching = arm(5);
+        touching.arm(0, false, 5, 10, 70);
+        touching.fold(0, 60, 30, 10, 70);
+        touching.fold(0, 40, 60, 10, 70);
+        CHECK.yes("arms that begin on panels", touching.isSound());
     }
 
     /** More strips than are looked at, some as long as is looked at, some longer, and all of them clashing. */

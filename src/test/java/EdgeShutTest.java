@@ -132,10 +132,10 @@ public final class EdgeShutTest {
         return w.clashes();
     }
 
-    /** A fold within the other one, with an arm of this length. */
-    private static int within(boolean isFirst, int length) {
+    /** A fold within the other one, its ridge at (a, b), with an arm of this length. */
+    private static int within(int a, int b, boolean isFirst, int length) {
         Popupwright w = Books.one();
-        w.fold(0, 20, 10, 10, 70);
+        w.fold(0, a, b, 10, 70);
         w.arm(1, isFirst, length, 10, 70);
         CHECK.yes("sound", w.isSound());
         return w.clashes();
@@ -148,10 +148,14 @@ public final class EdgeShutTest {
         CHECK.same("at its end", withArm(60, 55), 0);
         CHECK.same("beyond its end", withArm(60, 56), 0);
         CHECK.same("just beyond it, along the left way", withArm(41, 50), 1);
-        CHECK.same("an arm up to the first panel", within(false, 20), 0);
-        CHECK.same("an arm through the first panel", within(false, 21), 1);
-        CHECK.same("an arm up to the second panel", within(true, 20), 0);
-        CHECK.same("an arm through the second panel", within(true, 21), 1);
+        CHECK.same("an arm up to the first panel", within(20, 10, false, 20), 0);
+        CHECK.same("an arm through the first panel", within(20, 10, false, 21), 1);
+        CHECK.same("an arm up to the second panel", within(20, 10, true, 20), 0);
+        CHECK.same("an arm through the second panel", within(20, 10, true, 21), 1);
+        CHECK.same("an arm of 1 up to the first panel", within(39, 10, false, 1), 0);
+        CHECK.same("an arm of 2 through the first panel", within(39, 10, false, 2), 1);
+        CHECK.same("an arm of 1 up to the second panel", within(20, 29, true, 1), 0);
+        CHECK.same("an arm of 2 through the second panel", within(20, 29, true, 2), 1);
     }
 
     private static int crossing(int low, int high) {

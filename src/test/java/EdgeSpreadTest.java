@@ -12,6 +12,7 @@ public final class EdgeSpreadTest {
     private static final int MOST = Integer.MAX_VALUE;
 
     public static void main(String[] args) {
+        lastCall();
         newObject();
         newSheets();
         spreadRanges();
@@ -39,6 +40,19 @@ public final class EdgeSpreadTest {
         placeOrderOfExceptions();
         distances();
         CHECK.end();
+    }
+
+    private static void lastCall() {
+        CHECK.says("An object is used for at most 512 calls after it has been made");
+        Popupwright w = Books.none();
+        w.spread(100, 80);
+        w.fold(0, 40, 30, 10, 70);
+        w.picture(0, 0, 30, 10, 70, 5);
+        w.flap(0);
+        for (int call = 5; call <= 511; call++) {
+            CHECK.same("call " + call, w.turn(0) ? 1 : 0, call % 2 == 0 ? 1 : 0);
+        }
+        CHECK.same("call 512", w.colourAt(0, 5, 20), 5);
     }
 
     private static void newObject() {
@@ -101,6 +115,7 @@ public final class EdgeSpreadTest {
     private static void spreadIsEmpty() {
         CHECK.says("Begins a spread, without anything.");
         Popupwright w = Books.torn();
+        w.arm(0, false, 1, 10, 11);
         w.open(18, 9999);
         for (int n = 0; n < 3; n++) {
             w.mend(0);

@@ -405,6 +405,9 @@ public final class EdgeViewTest {
         CHECK.same("the first step", w.showStep(), 1);
         w.picture(2, 60, 70, 10, 70, 1);
         CHECK.same("two pictures, the first step", w.showStep(), 1);
+        Popupwright far = beyond();
+        far.picture(2, 60, 70, 10, 70, 1);
+        CHECK.same("shut, far beyond both pages, is no step for an eye", far.showStep(), 1);
         w.picture(1, 0, 39, 10, 70, 1);
         CHECK.no("one that is not", w.isWhole(2, 1));
         CHECK.yes("but in the step 6", w.isWhole(2, 6));
