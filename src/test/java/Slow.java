@@ -186,6 +186,84 @@ final class Slow {
         return noCrease(crease) ? new int[] {0, 20} : new int[] {crease(crease)[4], crease(crease)[5]};
     }
 
+    /** For those who draw calls: rooms, low and high of a crease; something else if there is none. */
+    int[] rooms(int crease) {
+        if (noCrease(crease)) {
+            return new int[] {20, 20, 0, 20};
+        }
+        int[] c = crease(crease);
+        return new int[] {c[2], c[3], c[4], c[5]};
+    }
+
+    /** For those who draw calls: low and high of a fold, torn or not. */
+    int[] panel(int fold) {
+        return noFold(fold) ? new int[] {0, 20} : new int[] {pieces.get(fold).low, pieces.get(fold).high};
+    }
+
+    /** For those who draw calls: i and j of a fold's ridge. */
+    int[] ridge(int fold) {
+        int[] c = crease(pieces.get(fold).crease);
+        return new int[] {c[0] + pieces.get(fold).a, c[1] + pieces.get(fold).b};
+    }
+
+    /** For those who draw calls: strip, from, to, low and high of a picture. */
+    int[] layer(int picture) {
+        if (noPicture(picture)) {
+            return new int[] {0, 0, 1, 0, 1};
+        }
+        Layer layer = layers.get(picture);
+        return new int[] {layer.strip, layer.from, layer.to, layer.low, layer.high};
+    }
+
+    /** For those who draw calls: whether a picture there would be whole. */
+    boolean isSeen(int strip, int[] along, int[] y, int step) {
+        Layer layer = new Layer();
+        layer.strip = strip;
+        layer.from = along[0];
+        layer.to = along[1];
+        layer.low = y[0];
+        layer.high = y[1];
+        return whole(layer, step);
+    }
+
+    boolean hasStrip(int strip) {
+        return bar(strip) != null;
+    }
+
+    boolean isTorn(int fold) {
+        return !noFold(fold) && pieces.get(fold).tired >= 20000;
+    }
+
+    boolean isParentTorn(int fold) {
+        return !noFold(fold) && pieces.get(fold).crease > 0 && isTorn((pieces.get(fold).crease - 1) / 2);
+    }
+
+    int tornNow() {
+        return torn();
+    }
+
+    /** For those who draw calls: whether the book would be good with this fold. */
+    boolean staysGood(int crease, int a, int b, int low, int high) {
+        if (noCrease(crease) || !holds(crease, a, b, low, high)) {
+            return false;
+        }
+        int number = put(crease, a, b, low, high);
+        boolean isGood = good();
+        pieces.remove(number);
+        return isGood;
+    }
+
+    /** For those who draw calls: whether the book would be good with this arm. */
+    boolean staysGoodWithArm(int fold, boolean first, int length, int low, int high) {
+        if (noFold(fold) || pieces.get(fold).arms[first ? 0 : 1] != null) {
+            return false;
+        }
+        pieces.get(fold).arms[first ? 0 : 1] = new int[] {length, low, high};
+        boolean isGood = good();
+        pieces.get(fold).arms[first ? 0 : 1] = null;
+        return isGood;
+    }
+
     private List<Bar> bars() {
         List<Bar> all = new ArrayList<>();
         for (int n = 0; n < 4 * pieces.size(); n++) {
