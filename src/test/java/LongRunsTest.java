@@ -307,7 +307,7 @@ public final class LongRunsTest {
 
     private void open() {
         Object now = hold("open", draw(isOneOf(40) ? 0 : 1, isOneOf(40) ? 19 : 18),
-                isOneOf(40) ? draw(0, 10000) : draw(1, run % 5 == 0 ? 1000 : 60));
+                isOneOf(40) ? draw(0, 10000) : draw(1, run % 5 > 0 ? 60 : run % 10 > 0 ? 4000 : 600));
         if (now instanceof Integer) {
             meets((Integer) now > torn ? "open tears" : "open tears none");
         }
@@ -399,8 +399,9 @@ public final class LongRunsTest {
         Object one = hold("balance", 1);
         Object more = hold("balance", draw(isOneOf(40) ? 0 : 2, isOneOf(40) ? 10 : 9));
         meets(one.equals(more) ? "stations do not help" : "stations help");
-        int minutes = isOneOf(30) ? draw(0, 10000) : draw(1, 400);
-        hold("copies", draw(isOneOf(40) ? 0 : 1, isOneOf(40) ? 10 : 9), minutes);
+        int some = draw(1, 9);
+        int minutes = isOneOf(20) ? draw(0, 10000) : slow.minutesFor(some, draw(1, 9)) - draw(0, 1);
+        hold("copies", isOneOf(40) ? draw(0, 10) : some, minutes);
     }
 
     private void lives() {
@@ -446,6 +447,7 @@ public final class LongRunsTest {
             "wish by 1 with many folds, pictures and pulls", "wish by 2 with many folds, pictures and pulls",
             "wish by 1, some torn", "wish by 2, some torn", "wish in the crease of a torn fold",
             "an arm for a torn fold", "open tears", "mend answers 1", "mend answers 2", "mend answers 3",
+            "mend answers class java.lang.UnsupportedOperationException",
             "gets good again", "gets bad", "all are shown", "isWhole answers true", "isWhole answers false",
             "a colour is seen", "a colour is not seen", "a strip is seen", "the page -1 is seen", "the page -2 is seen",
             "many follow", "it went all", "it went a part", "it went nothing", "more sheets than two", "stations help",

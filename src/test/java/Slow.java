@@ -862,6 +862,15 @@ final class Slow {
         return copies;
     }
 
+    /** For those who draw calls: how long so many copies take. */
+    int minutesFor(int stations, int copies) {
+        int time = (copies - 1) * greatest(stations);
+        for (int n = 0; n < pieces.size(); n++) {
+            time += takes(n);
+        }
+        return time;
+    }
+
     int setPaper(int w) {
         illegal(w < 100 || w > 400);
         int before = weight;
